@@ -4,6 +4,7 @@ public final class HistoryTest {
         fourStates();
         everyActIsUndone();
         errorsAndLooksAreNoActs();
+        undoRestoresWhatIsHidden();
         undoIsNoAct();
         bufferIsNoPart();
         fingerprintOfANewObject();
@@ -108,6 +109,36 @@ public final class HistoryTest {
         group.fingerprint();
         Checks.due("one act alone", group.undo(), 3);
         Checks.due("as before it", group.fingerprint(), before);
+    }
+
+    private static void undoRestoresWhatIsHidden() {
+        RepairDuty group = Groups.at(0, 0, 0);
+        group.commit(0, Groups.mix(70));
+        group.commit(0, Groups.mix(71));
+        group.undo();
+        Checks.due("the earlier commitment", group.reveal(0, 70), 1);
+        Groups.drawn(group, 1, 2);
+        Checks.due("undo of the first draw", group.undo(), 3);
+        Checks.due("no list", group.duty(0), Groups.NONE);
+        Checks.due("no rank", group.member(0, 4), Groups.NONE);
+        Checks.due("no seed", group.seed(), Groups.NO_SEED);
+        group.draw();
+        int[] list = {group.duty(0), group.duty(1), group.duty(2)};
+        for (int secret = 0; secret < 20; secret++) {
+            Groups.drawn(group, secret, secret);
+            group.undo();
+            for (int rank = 0; rank < 3; rank++) {
+                Checks.due("the list before", group.duty(rank), list[rank]);
+            }
+        }
+        group.lose(list[1], 5);
+        group.lose(list[2], 5);
+        group.repair(5);
+        Checks.due("one was silent", group.about(9), 1);
+        group.undo();
+        Checks.due("no silent one", group.about(9), 0);
+        Checks.due("no question", group.about(8), 0);
+        Checks.due("no repair", group.past(0, 0), Groups.NONE);
     }
 
     private static void undoIsNoAct() {

@@ -88,6 +88,12 @@ public final class LotteryTest {
     }
 
     private static void drawNeedsReveals() {
+        RepairDuty one = Groups.at(0, 0);
+        one.set(2, 1);
+        Checks.due("draw without a reveal", one.draw(), Groups.STATE);
+        Groups.commitAndReveal(one, 1, 4);
+        Checks.due("draw by one that is not the first", one.draw(), 1);
+        Checks.due("its seed", one.seed(), Groups.mix(1 ^ 4));
         RepairDuty group = Groups.at(0, 0, 0);
         Checks.due("draw without reveals", group.draw(), Groups.STATE);
         Groups.commitAndReveal(group, 0, 4);

@@ -7,6 +7,7 @@ public final class RepairsTest {
         losersThatAskAndAreSilent();
         edgeOfSilence();
         firstOfSeveral();
+        everyMemberInEveryPart();
         heardFromTheNearer();
         rankMakesLater();
         dutiesPassedOver();
@@ -168,6 +169,49 @@ public final class RepairsTest {
             Checks.due("part of " + member, group.look(60, member, 0), part);
             Checks.due("wait of " + member, group.look(60, member, 1), member == repairer ? Groups.NONE : 0);
         }
+    }
+
+    /** Two losers and one dead member before the repairer: over the rounds each member is each of them. */
+    private static void everyMemberInEveryPart() {
+        int[] parts = new int[6];
+        for (int secret = 0; secret < 60; secret++) {
+            RepairDuty group = Groups.drawn(Groups.at(0, 1000, 300, 600), secret, -secret);
+            group.set(0, 900);
+            int dead = group.duty(0);
+            int repairer = group.duty(1);
+            int one = group.duty(2);
+            int two = group.duty(3);
+            group.live(dead, false);
+            group.lose(one, secret);
+            group.lose(two, secret);
+            int first = two < one ? two : one;
+            int second = first == one ? two : one;
+            if (wait(group, secret, second) < wait(group, secret, first)) {
+                first = second;
+                second = first == one ? two : one;
+            }
+            int far = Math.abs(group.member(first, 1) - group.member(second, 1));
+            boolean asks = wait(group, secret, second) <= wait(group, secret, first) + far;
+            int toFirst = Math.abs(group.member(first, 1) - group.member(repairer, 1));
+            int toSecond = Math.abs(group.member(second, 1) - group.member(repairer, 1));
+            int heard = wait(group, secret, first) + toFirst;
+            heard = asks ? Math.min(heard, wait(group, secret, second) + toSecond) : heard;
+            Checks.due("first", group.look(secret, first, 0), 1);
+            Checks.due("second", group.look(secret, second, 0), asks ? 2 : 3);
+            Checks.due("time at the first", group.look(secret, first, 2), heard + 50 + toFirst);
+            Checks.due("time at the second", group.look(secret, second, 2), heard + 50 + toSecond);
+            Checks.due("dead", group.look(secret, dead, 0), 5);
+            group.repair(secret);
+            Checks.due("missed", group.member(dead, 7), 1);
+            Checks.due("fined", group.member(dead, 3), -3);
+            group.live(dead, true);
+            group.lose(one, secret);
+            Checks.due("no duty missed then", group.look(secret, repairer, 0), 0);
+            group.repair(secret);
+            Checks.due("nobody missed then", group.past(0, 5), 0);
+            parts[asks ? 2 : 3]++;
+        }
+        Checks.holds("some asked and some were silent", parts[2] > 9 && parts[3] > 9);
     }
 
     private static void heardFromTheNearer() {
