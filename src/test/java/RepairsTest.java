@@ -14,6 +14,7 @@ public final class RepairsTest {
         onlyTheLivingGetIt();
         rewardAndFine();
         repairAll();
+        repairAllAsOneByOne();
         look();
         lookWrongly();
         pastIsKept();
@@ -349,6 +350,21 @@ public final class RepairsTest {
         Checks.due("lost again", group.lost(1, 199), 1);
         Checks.due("how many again", group.repairAll(), 3);
         Checks.due("none is left", group.repairAll(), 0);
+    }
+
+    private static void repairAllAsOneByOne() {
+        RepairDuty all = groupOfLosses(8);
+        RepairDuty single = groupOfLosses(8);
+        int repairs = 0;
+        for (int block = 0; block < 200; block++) {
+            if (single.why(block) == 0) {
+                single.repair(block);
+                repairs++;
+            }
+        }
+        Checks.due("as many as one by one", all.repairAll(), repairs);
+        Checks.holds("several", repairs > 5);
+        Checks.due("the same came of it", all.fingerprint(), single.fingerprint());
     }
 
     private static void look() {
