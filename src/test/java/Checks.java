@@ -2,8 +2,16 @@
 final class Checks {
     private static int made = 0;
     private static int wrong = 0;
+    private static int sentences = 0;
+    private static String sentence = "";
 
     private Checks() {
+    }
+
+    /** The checks that follow are of this sentence of the document. */
+    static void sentence(String where, String words) {
+        sentences++;
+        sentence = where + " \"" + words + "\": ";
     }
 
     static void due(String what, double got, double want) {
@@ -30,12 +38,13 @@ final class Checks {
     private static void tell(String what, String got, String want) {
         wrong++;
         if (wrong <= 50) {
-            System.out.println(what + " answered " + got + ", due is " + want);
+            System.out.println(sentence + what + " answered " + got + ", due is " + want);
         }
     }
 
     static void end() {
-        System.out.println(made + " checks, " + wrong + " wrong");
+        String of = sentences > 0 ? " of " + sentences + " sentences" : "";
+        System.out.println(made + " checks" + of + ", " + wrong + " wrong");
         if (wrong != 0 || made == 0) {
             System.exit(1);
         }
