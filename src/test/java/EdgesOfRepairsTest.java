@@ -1,3 +1,5 @@
+import java.util.Arrays;
+
 /** Promises 20 to 26 and the repairs, sentence by sentence: the first and the last that is allowed, or is kept. */
 public final class EdgesOfRepairsTest {
     /** The list of Edges.tenDrawn(), and the waits of its members for the blocks 0, 7 and 199. */
@@ -73,7 +75,7 @@ public final class EdgesOfRepairsTest {
 
     /** The members from one rank to another, by the list of the group of ten. */
     private static int[] ranks(int from, int to) {
-        return java.util.Arrays.copyOfRange(LIST, from, to + 1);
+        return Arrays.copyOfRange(LIST, from, to + 1);
     }
 
     private static void duePast(String what, RepairDuty group, int... numbers) {
