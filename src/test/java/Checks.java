@@ -12,6 +12,7 @@ final class Checks {
     static void sentence(String where, String words) {
         sentences++;
         sentence = where + " \"" + words + "\": ";
+        holds("the document says so", Document.says(where, words));
     }
 
     static void due(String what, double got, double want) {

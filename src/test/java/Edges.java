@@ -49,7 +49,7 @@ final class Edges {
      * of the lottery, losses, repairs, duties missed, a full history, and a text that ends too early.
      */
     static RepairDuty busy() {
-        RepairDuty group = Groups.drawn(Groups.at(5, 300, 650, 1000, 40), 31, 32);
+        RepairDuty group = Groups.drawn(Groups.at(5, 300, 650, 655, 40), 31, 32);
         Groups.type(group, "3:01;60:23;198:01234;0:4;199:0");
         group.read();
         group.repair(60);

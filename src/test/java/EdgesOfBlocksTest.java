@@ -36,7 +36,7 @@ public final class EdgesOfBlocksTest {
     }
 
     private static void blocksHadAtFirst() {
-        Checks.sentence("BLOCKS", "Each member has each block, but those that it has lost.");
+        Checks.sentence("BLOCKS", "are numbered from 0 to 199. Each member has each block, but those that it has lost.");
         RepairDuty group = Edges.pair();
         for (int block = 0; block < 200; block++) {
             Checks.due("lost at first", group.lost(0, block) + group.lost(1, block), 0);
@@ -151,7 +151,7 @@ public final class EdgesOfBlocksTest {
     }
 
     private static void fullBuffer() {
-        Checks.sentence("Promise 16", "FULL if there are 60 characters.");
+        Checks.sentence("TEXTS", "There is a buffer of at most 60 characters");
         Checks.due("the longest text", LONGEST.length(), 60);
         Edges.Maker full = typed(Edges::ten, LONGEST);
         Edges.refused("a digit", full, group -> group.type('0'), Groups.FULL);

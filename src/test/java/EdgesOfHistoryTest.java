@@ -17,6 +17,7 @@ public final class EdgesOfHistoryTest {
         undoTellsHowManyAreLeft();
         constants();
         errorsInOrder();
+        allCallsOfAnObject();
         fingerprintOfNone();
         fingerprintOfEachNumber();
         fingerprintOfMembers();
@@ -248,7 +249,9 @@ public final class EdgesOfHistoryTest {
 
     private static void restoresAll() {
         Checks.sentence("Promise 27", "Undoes the latest act.");
-        Edges.Maker[] makers = {Edges::fresh, Edges::pair, Edges::nine, Edges::tenDrawn, Edges::busy};
+        Edges.Maker silent = Edges.after(Edges::tenDrawn,
+            group -> group.change(7, 1, 510) + group.lose(5, 0) + group.lose(7, 0));
+        Edges.Maker[] makers = {Edges::fresh, Edges::pair, Edges::nine, Edges::tenDrawn, Edges::busy, silent};
         for (Edges.Maker maker : makers) {
             String before = Edges.states(maker).get(0);
             for (Edges.Call act : acts()) {
@@ -259,6 +262,7 @@ public final class EdgesOfHistoryTest {
                 Checks.holds("as before the act", Edges.states(undone).get(0).equals(before));
             }
         }
+        Checks.due("one was silent", Edges.after(silent, group -> group.repair(0)).make().about(9), 1);
     }
 
     private static Edges.Call[] acts() {
@@ -326,6 +330,32 @@ public final class EdgesOfHistoryTest {
         Checks.due("past, BAD by what and NONE", ten.past(0, 7), Groups.BAD);
         Checks.due("past, BAD by i", ten.past(-1, 0), Groups.BAD);
         Checks.due("why, BAD and no round", ten.why(-1), Groups.BAD);
+    }
+
+    private static void allCallsOfAnObject() {
+        Checks.sentence("What it is", "An object is used for at most 512 calls after it has been made");
+        RepairDuty acts = new RepairDuty();
+        for (int call = 1; call <= 511; call++) {
+            Checks.due("act " + call, acts.set(0, call), call == 1 ? 100 : call - 1);
+        }
+        Checks.due("call 512", acts.undo(), 3);
+        RepairDuty rounds = new RepairDuty();
+        rounds.join(1, 0);
+        rounds.set(2, 1);
+        for (int round = 1; round <= 170; round++) {
+            rounds.commit(0, Groups.mix(round));
+            rounds.reveal(0, round);
+            Checks.due("round", rounds.draw(), round);
+        }
+        RepairDuty repairs = Groups.drawn(Groups.at(0, 0), 1, 2);
+        int loser = repairs.duty(1);
+        for (int call = 10; call <= 508; call += 2) {
+            repairs.lose(loser, call % 200);
+            repairs.repair(call % 200);
+        }
+        Checks.due("repairs", repairs.about(7), 250);
+        Checks.due("the oldest one that is kept", repairs.past(19, 0), (508 - 38) % 200);
+        Checks.due("credits", repairs.member(repairs.duty(0), 3), 1250);
     }
 
     private static long printOf(long... numbers) {

@@ -27,6 +27,7 @@ public final class EdgesOfLotteryTest {
         whoIsFined();
         allIsGoneThen();
         seedBeforeTheFirstRound();
+        rankIsThePlace();
         ranksOfTheList();
         listOfOneAndOfTen();
         listTakesTheDeadIn();
@@ -234,7 +235,7 @@ public final class EdgesOfLotteryTest {
     }
 
     private static void anyIntIsRevealed() {
-        Checks.sentence("Promise 10", "secret: any int");
+        Checks.sentence("THE LOTTERY", "the secret is right if its MIX is what was told");
         for (int secret : new int[] {0, -1, Integer.MIN_VALUE, Integer.MAX_VALUE, secretOf(0), secretOf(-1),
             secretOf(Integer.MIN_VALUE), secretOf(Integer.MAX_VALUE)}) {
             RepairDuty group = Edges.pair();
@@ -310,7 +311,9 @@ public final class EdgesOfLotteryTest {
         Checks.sentence("Promise 11", "right reveals");
         Edges.Maker dead = Edges.after(revealed(2, 2), group -> group.live(0, false) + group.live(1, false));
         Edges.act("a reveal of a dead one stays", dead, group -> group.draw(), 1);
-        Edges.told("so it does for ifLeft", dead, group -> group.ifLeft(1, 0), Groups.STATE);
+        int first = Groups.list(Groups.mix(Groups.mix(1 ^ 5) ^ 5), 1, 2, 3, 4, 5, 6, 7, 8, 9, 1)[0];
+        Edges.told("so it does for ifLeft", dead, group -> group.ifLeft(0, 0), first);
+        Edges.told("one of them left out", dead, group -> group.ifLeft(1, 0), Groups.STATE);
         RepairDuty group = dead.make();
         group.draw();
         Checks.due("seed", group.seed(), Groups.mix(Groups.mix(1 ^ 5) ^ 5));
@@ -416,6 +419,19 @@ public final class EdgesOfLotteryTest {
             group.draw();
             Checks.due("a seed as a long", group.seed(), (long) due);
         }
+    }
+
+    private static void rankIsThePlace() {
+        Checks.sentence("THE LIST", "The rank of a member is its place on the list, from 0.");
+        int[] list = {2, 8, 6, 9, 7, 1, 5, 3, 4, 0};
+        RepairDuty group = Edges.tenDrawn();
+        for (int rank = 0; rank < 10; rank++) {
+            Checks.due("rank of " + list[rank], group.member(list[rank], 4), rank);
+        }
+        group.live(2, false);
+        group.change(0, 0, 9);
+        Checks.due("rank of a dead one", group.member(2, 4), 0);
+        Checks.due("rank after a change", group.member(0, 4), 9);
     }
 
     private static void ranksOfTheList() {

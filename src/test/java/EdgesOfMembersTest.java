@@ -426,7 +426,7 @@ public final class EdgesOfMembersTest {
     }
 
     private static void noSetting() {
-        Checks.sentence("Promise 6", "setting: 0 to 4");
+        Checks.sentence("Promise 6", "BAD if an argument is not in its range.");
         for (int setting : Edges.outside(0, 4)) {
             for (int value : new int[] {1, 5, setting}) {
                 Edges.refusedEverywhere("set " + setting + " " + value, group -> group.set(setting, value), Groups.BAD);

@@ -18,10 +18,12 @@ public final class EdgesOfRepairsTest {
         silenceAtDistanceNull();
         repairerOfEachRank();
         passedOver();
+        everyMemberPassedOver();
         noRepairerWithoutRank();
         heardAtTheSmallest();
         laterByStepAndRank();
         theFarthestPositions();
+        comesToEachLoser();
         theLastLoserItCameTo();
         rewardsAndFines();
         blocksToRepair();
@@ -39,6 +41,7 @@ public final class EdgesOfRepairsTest {
         noLoserToLookAt();
         lookIsTheRepair();
         whichRepair();
+        numbersOfRepairs();
         whatOfARepair();
         repairNotKept();
         whyInOrder();
@@ -220,6 +223,29 @@ public final class EdgesOfRepairsTest {
         Checks.due("all eight dead ones missed it", all.past(0, 5), 1023 & ~(1 << 4) & ~1);
     }
 
+    private static void everyMemberPassedOver() {
+        Checks.sentence("BLOCKS", "those of them that are not living have missed a duty.");
+        int seen = 0;
+        for (int secret = 0; secret < 150; secret++) {
+            RepairDuty group = Groups.drawn(Edges.ten(), secret, secret);
+            int dead = group.duty(0);
+            int repairer = group.duty(1);
+            killing(losing(group, 7, group.duty(2)), dead);
+            Checks.due("it would miss a duty", group.look(7, dead, 0), 5);
+            group.repair(7);
+            Checks.due("missed", group.past(0, 5), 1 << dead);
+            Checks.due("its duties missed", group.member(dead, 7), 1);
+            Checks.due("its credits", group.member(dead, 3), -3);
+            Checks.due("the repairer's credits", group.member(repairer, 3), 5);
+            group.live(dead, true);
+            losing(group, 7, group.duty(2)).repair(7);
+            Checks.due("living again it misses none", group.past(0, 5), 0);
+            Checks.due("but repairs", group.past(0, 2), dead);
+            seen |= 1 << dead;
+        }
+        Checks.due("each member was the dead one", seen, 1023);
+    }
+
     private static void noRepairerWithoutRank() {
         Checks.sentence("BLOCKS", "The repairer is the member with the smallest rank");
         RepairDuty group = losing(Groups.drawn(Edges.nine(), 3, 4), 7, 0, 1, 2, 3, 4, 5, 6, 7, 8);
@@ -247,6 +273,16 @@ public final class EdgesOfRepairsTest {
             group.change(4, 1, row[1]);
             Checks.due("at 1", group.look(7, 1, 2), row[2] + Math.abs(row[0] - 200));
             Checks.due("at 4", group.look(7, 4, 2), row[2] + Math.abs(row[1] - 200));
+        }
+        int[][] farAndNear = {{7, 9, 0, 30}, {199, 4, 9, 73}, {7, 3, 0, 30}, {0, 5, 1, 64}};
+        for (int[] row : farAndNear) {
+            RepairDuty group = lost(row[0], row[1], row[2]).make();
+            group.change(row[1], 1, 1000);
+            group.change(row[2], 1, 200);
+            Checks.due("far", group.look(row[0], row[1], 0), 1);
+            Checks.due("near", group.look(row[0], row[2], 0), 2);
+            Checks.due("heard from the near one", group.look(row[0], row[2], 2), row[3]);
+            Checks.due("the repair", group.repair(row[0]), row[3] + 800);
         }
         RepairDuty later = lost(7, 1, 9).make();
         later.change(1, 1, 290);
@@ -288,6 +324,25 @@ public final class EdgesOfRepairsTest {
             int distance = Math.abs(places[0] - places[1]);
             Checks.due("at " + places[0] + " and " + places[1], group.repair(7), 12 + 2 * distance + 4500);
         }
+    }
+
+    private static void comesToEachLoser() {
+        Checks.sentence("BLOCKS", "The block comes to each loser at this time plus the distance from the repairer; the "
+            + "losers have it then.");
+        RepairDuty group = lost(7, 0, 1, 3, 4, 5, 6, 7, 8, 9).make();
+        for (int member = 0; member < 10; member++) {
+            int due = member == 2 ? Groups.NONE : 12 + 100 + 100 * Math.abs(member - 2);
+            Checks.due("comes to " + member, group.look(7, member, 2), due);
+        }
+        Checks.due("repair", group.repair(7), 12 + 100 + 700);
+        for (int member = 0; member < 10; member++) {
+            Checks.due("has it, " + member, group.lost(member, 7), 0);
+        }
+        RepairDuty dead = dead(lost(7, 1, 9), 9).make();
+        dead.repair(7);
+        Checks.due("only the losers have it", dead.lost(9, 7), 1);
+        dead.lose(3, 8);
+        Checks.due("only this block", dead.lost(3, 8), 1);
     }
 
     private static void theLastLoserItCameTo() {
@@ -566,6 +621,30 @@ public final class EdgesOfRepairsTest {
                 Checks.due("new", new RepairDuty().past(i, number), Groups.BAD);
             }
         }
+    }
+
+    private static void numbersOfRepairs() {
+        Checks.sentence("Promise 23", "i: 0 for the latest one, 1 for the one before it, and so on");
+        RepairDuty group = Edges.tenDrawn();
+        int[][] due = new int[25][];
+        for (int made = 0; made < 25; made++) {
+            int block = made * 8;
+            losing(group, block, 1, 3, 9);
+            due[made] = new int[] {block, 1, 2, 0, 0, 0, 0};
+            for (int member : new int[] {1, 3, 9}) {
+                int part = group.look(block, member, 0);
+                due[made][3] |= part < 3 ? 1 << member : 0;
+                due[made][4] |= part == 3 ? 1 << member : 0;
+                due[made][6] = Math.max(due[made][6], group.look(block, member, 2));
+            }
+            group.repair(block);
+        }
+        for (int i = 0; i < 20; i++) {
+            for (int what = 0; what <= 6; what++) {
+                Checks.due("past " + i + " " + what, group.past(i, what), due[24 - i][what]);
+            }
+        }
+        Checks.due("no 21st", group.past(20, 0), Groups.NONE);
     }
 
     private static void whatOfARepair() {
