@@ -96,10 +96,12 @@ final class Edges {
             then.subList(1, then.size()).equals(before.subList(0, kept)));
     }
 
-    static Maker after(Maker maker, Call call) {
+    static Maker after(Maker maker, Call... calls) {
         return () -> {
             RepairDuty group = maker.make();
-            call.on(group);
+            for (Call call : calls) {
+                call.on(group);
+            }
             return group;
         };
     }

@@ -36,7 +36,8 @@ public final class EdgesOfBlocksTest {
     }
 
     private static void blocksHadAtFirst() {
-        Checks.sentence("BLOCKS", "are numbered from 0 to 199. Each member has each block, but those that it has lost.");
+        Checks.sentence("BLOCKS", "are numbered from 0 to 199. Each member has each block, but those that it has "
+            + "lost.");
         RepairDuty group = Edges.pair();
         for (int block = 0; block < 200; block++) {
             Checks.due("lost at first", group.lost(0, block) + group.lost(1, block), 0);
@@ -428,7 +429,7 @@ public final class EdgesOfBlocksTest {
         right(lost, "5:0", 1);
         right(lost, "5:01", 1);
         right(lost, "6:1;5:1", 1);
-        Edges.Maker got = Edges.after(Edges.after(Edges::tenDrawn, group -> group.lose(1, 5)), group -> group.repair(5));
+        Edges.Maker got = Edges.after(Edges::tenDrawn, group -> group.lose(1, 5), group -> group.repair(5));
         right(got, "5:1", 1);
         right(Edges::ten, "0:0123456789;1:0123456789;2:0123456789;3:0123456789;4:012345", 46);
     }

@@ -144,7 +144,7 @@ public final class EdgesOfHistoryTest {
         Edges.act("reveal rightly", Edges::busy, group -> group.reveal(right, 6), 1);
         Edges.act("reveal wrongly", Edges::busy, group -> group.reveal(wrong, 1), 0);
         Edges.act("lose", Edges::busy, group -> group.lose(4, 0), 1);
-        Edges.act("read", Edges.after(Edges.after(Edges::busy, group -> group.lose(4, 12)), group -> group.type('4')),
+        Edges.act("read", Edges.after(Edges::busy, group -> group.lose(4, 12), group -> group.type('4')),
             group -> group.read(), 0);
         Edges.act("repairAll", Edges.after(Edges::busy, group -> group.repairAll()), group -> group.repairAll(), 0);
         RepairDuty group = waits(4);
@@ -249,8 +249,8 @@ public final class EdgesOfHistoryTest {
 
     private static void restoresAll() {
         Checks.sentence("Promise 27", "Undoes the latest act.");
-        Edges.Maker silent = Edges.after(Edges::tenDrawn,
-            group -> group.change(7, 1, 510) + group.lose(5, 0) + group.lose(7, 0));
+        Edges.Maker silent = Edges.after(Edges::tenDrawn, group -> group.change(7, 1, 510),
+            group -> group.lose(5, 0), group -> group.lose(7, 0));
         Edges.Maker[] makers = {Edges::fresh, Edges::pair, Edges::nine, Edges::tenDrawn, Edges::busy, silent};
         for (Edges.Maker maker : makers) {
             String before = Edges.states(maker).get(0);
@@ -268,19 +268,20 @@ public final class EdgesOfHistoryTest {
     private static Edges.Call[] acts() {
         return new Edges.Call[] {group -> group.join(9, 9), group -> group.change(1, 0, 9),
             group -> group.change(1, 1, 999), group -> group.live(1, false), group -> group.set(0, 1),
-            group -> group.set(4, 99), group -> group.commit(0, Groups.mix(32)), group -> group.commit(4, Groups.mix(0)),
-            group -> group.reveal(1, 7), group -> group.reveal(1, 0), group -> group.lose(1, 150),
-            group -> group.repair(0), group -> group.repairAll()};
+            group -> group.set(4, 99), group -> group.commit(0, Groups.mix(32)),
+            group -> group.commit(4, Groups.mix(0)), group -> group.reveal(1, 7), group -> group.reveal(1, 0),
+            group -> group.lose(1, 150), group -> group.repair(0), group -> group.repairAll()};
     }
 
     private static void undoOfNothing() {
         Checks.sentence("Promise 27", "NONE if it has none.");
         Edges.refused("new", Edges::fresh, group -> group.undo(), Groups.NONE);
-        Edges.Maker spent = Edges.after(Edges::busy, group -> group.undo() + group.undo() + group.undo() + group.undo());
+        Edges.Maker spent = Edges.after(Edges::busy, RepairDuty::undo, RepairDuty::undo, RepairDuty::undo,
+            RepairDuty::undo);
         Edges.refused("spent", spent, group -> group.undo(), Groups.NONE);
-        Edges.refused("spent, again and again", Edges.after(spent, group -> group.undo() + group.undo()),
+        Edges.refused("spent, again and again", Edges.after(spent, RepairDuty::undo, RepairDuty::undo),
             group -> group.undo(), Groups.NONE);
-        Edges.refused("only refused acts", Edges.after(Edges::fresh, group -> group.join(0, 0) + group.draw()),
+        Edges.refused("only refused acts", Edges.after(Edges::fresh, group -> group.join(0, 0), RepairDuty::draw),
             group -> group.undo(), Groups.NONE);
         Edges.act("an act then", spent, group -> group.set(0, 5), 100);
     }
@@ -411,8 +412,8 @@ public final class EdgesOfHistoryTest {
     }
 
     private static void fingerprintOfLostBlocks() {
-        Checks.sentence("Promise 28", "for each block that a member has lost its number and the set of the members that "
-            + "have lost it");
+        Checks.sentence("Promise 28", "for each block that a member has lost its number and the set of the members "
+            + "that have lost it");
         RepairDuty group = new RepairDuty();
         group.join(1, 0);
         group.join(2, 5);

@@ -301,15 +301,14 @@ public final class EdgesOfLotteryTest {
             Edges.act(least + " of " + least, revealed(least, least), group -> group.draw(), 1);
         }
         Edges.act("ten of one", revealed(10, 1), group -> group.draw(), 1);
-        Edges.act("two of the first two", Edges.after(Edges::pair, group -> {
-            Groups.commitAndReveal(group, 0, 5);
-            return Groups.commitAndReveal(group, 1, 5);
-        }), group -> group.draw(), 1);
+        Edges.act("two of the first two", Edges.after(Edges::pair, group -> Groups.commitAndReveal(group, 0, 5),
+            group -> Groups.commitAndReveal(group, 1, 5)), group -> group.draw(), 1);
     }
 
     private static void deadRevealsCount() {
         Checks.sentence("Promise 11", "right reveals");
-        Edges.Maker dead = Edges.after(revealed(2, 2), group -> group.live(0, false) + group.live(1, false));
+        Edges.Maker dead = Edges.after(revealed(2, 2), group -> group.live(0, false),
+            group -> group.live(1, false));
         Edges.act("a reveal of a dead one stays", dead, group -> group.draw(), 1);
         int first = Groups.list(Groups.mix(Groups.mix(1 ^ 5) ^ 5), 1, 2, 3, 4, 5, 6, 7, 8, 9, 1)[0];
         Edges.told("so it does for ifLeft", dead, group -> group.ifLeft(0, 0), first);
@@ -531,7 +530,8 @@ public final class EdgesOfLotteryTest {
         for (int rank : new int[] {-1, -2, -256, Integer.MIN_VALUE}) {
             Edges.told("rank " + rank, revealed(10, 1), group -> group.ifLeft(0, rank), Groups.BAD);
             Edges.told("rank " + rank + " and too few", Edges::fresh, group -> group.ifLeft(0, rank), Groups.BAD);
-            Edges.told("rank " + rank + " and all left", revealed(10, 1), group -> group.ifLeft(1023, rank), Groups.BAD);
+            Edges.told("rank " + rank + " and all left", revealed(10, 1),
+                group -> group.ifLeft(1023, rank), Groups.BAD);
         }
         for (int rank : new int[] {10, 11, 256, 65536, Integer.MAX_VALUE}) {
             Edges.told("rank " + rank, revealed(10, 1), group -> group.ifLeft(0, rank), Groups.NONE);
@@ -540,7 +540,7 @@ public final class EdgesOfLotteryTest {
         Edges.Maker two = Edges.after(atStage(2), group -> group.set(2, 1));
         Edges.told("rank 1 of two", two, group -> group.ifLeft(0, 1), Groups.list(Groups.mix(1 ^ 5), 1, 2)[1]);
         Edges.told("rank 2 of two", two, group -> group.ifLeft(0, 2), Groups.NONE);
-        Edges.Maker later = Edges.after(Edges.after(Edges::busy, group -> group.set(2, 1)), group -> group.join(1, 1));
+        Edges.Maker later = Edges.after(Edges::busy, group -> group.set(2, 1), group -> group.join(1, 1));
         RepairDuty drawn = later.make();
         drawn.draw();
         Edges.told("one that came after the last draw", later, group -> group.ifLeft(0, 5), drawn.duty(5));

@@ -164,7 +164,8 @@ public final class EdgesOfRepairsTest {
 
     // Block 199: member 8 has the wait 46, 7 has 47. Block 0: 3 and 4 have 42.
     private static void silenceAtDistanceNull() {
-        Checks.sentence("BLOCKS", "is silent if its wait is greater than the wait of the first one plus their distance");
+        Checks.sentence("BLOCKS", "is silent if its wait is greater than the wait of the first one plus their "
+            + "distance");
         RepairDuty group = lost(199, 7, 8).make();
         group.change(7, 1, 800);
         Checks.due("one greater at the same place", group.look(199, 7, 0), 3);
@@ -178,7 +179,8 @@ public final class EdgesOfRepairsTest {
     }
 
     private static void repairerOfEachRank() {
-        Checks.sentence("BLOCKS", "The repairer is the member with the smallest rank that is living and has the block.");
+        Checks.sentence("BLOCKS", "The repairer is the member with the smallest rank that is living and has the "
+            + "block.");
         for (int rank = 0; rank <= 8; rank++) {
             RepairDuty group = killing(lost(7, 0).make(), ranks(0, rank - 1));
             Checks.due("with dead ones before it", group.look(7, LIST[rank], 0), 4);
@@ -413,12 +415,12 @@ public final class EdgesOfRepairsTest {
     }
 
     private static void repairNotPossible() {
-        Checks.sentence("BLOCKS", "A repair is not possible if no round was drawn, the block has no losers, or there is "
-            + "no repairer.");
+        Checks.sentence("BLOCKS", "A repair is not possible if no round was drawn, the block has no losers, or there "
+            + "is no repairer.");
         for (Edges.Maker maker : hindered()) {
             Edges.refused("repair", maker, group -> group.repair(7), Groups.STATE);
         }
-        Edges.Maker undrawn = Edges.after(Edges.after(Edges::tenDrawn, group -> group.undo()), group -> group.lose(1, 7));
+        Edges.Maker undrawn = Edges.after(Edges::tenDrawn, group -> group.undo(), group -> group.lose(1, 7));
         Edges.refused("an undone draw", undrawn, group -> group.repair(7), Groups.STATE);
         Edges.refused("once more", Edges.after(lost(7, 1), group -> group.repair(7)), group -> group.repair(7),
             Groups.STATE);
@@ -568,8 +570,8 @@ public final class EdgesOfRepairsTest {
     }
 
     private static void noLoserToLookAt() {
-        Checks.sentence("Promise 22", "1 its wait (NONE if it is no loser); 2 the time at which the block would come to "
-            + "it (NONE if it is no loser)");
+        Checks.sentence("Promise 22", "1 its wait (NONE if it is no loser); 2 the time at which the block would come "
+            + "to it (NONE if it is no loser)");
         Edges.Maker maker = () -> {
             RepairDuty group = killing(losing(Groups.drawn(Edges.nine(), 3, 4), 7, 0, 1), 1);
             group.join(1, 1);
@@ -581,8 +583,8 @@ public final class EdgesOfRepairsTest {
                 int no = member;
                 Edges.told("no loser " + member, maker, group -> group.look(7, no, number), Groups.NONE);
             }
-            Edges.told("not once it was one", Edges.after(lost(7, 0, 1), group -> group.repair(7) + group.lose(3, 7)),
-                group -> group.look(7, 1, number), Groups.NONE);
+            Edges.Maker got = Edges.after(lost(7, 0, 1), group -> group.repair(7), group -> group.lose(3, 7));
+            Edges.told("not once it was one", got, group -> group.look(7, 1, number), Groups.NONE);
         }
         Checks.holds("the loser has a wait", maker.make().look(7, 0, 1) >= 0);
         Checks.holds("and a time", maker.make().look(7, 0, 2) >= maker.make().look(7, 0, 1));
@@ -648,7 +650,8 @@ public final class EdgesOfRepairsTest {
     }
 
     private static void whatOfARepair() {
-        Checks.sentence("Promise 23", "or what is not in its range; NONE if there is no such repair, or it is not kept.");
+        Checks.sentence("Promise 23", "or what is not in its range; NONE if there is no such repair, or it is not "
+            + "kept.");
         for (int what : Edges.outside(0, 6)) {
             Edges.told("new, " + what, Edges::fresh, group -> group.past(0, what), Groups.BAD);
             Edges.told("busy, " + what, Edges::busy, group -> group.past(0, what), Groups.BAD);
@@ -679,7 +682,7 @@ public final class EdgesOfRepairsTest {
             for (int i : new int[] {2, 19, 20, 21, 256, Integer.MAX_VALUE}) {
                 Checks.due("past " + i, Edges.busy().past(i, number), Groups.NONE);
             }
-            Edges.Maker undone = Edges.after(lost(7, 0), group -> group.repair(7) + group.undo());
+            Edges.Maker undone = Edges.after(lost(7, 0), group -> group.repair(7), RepairDuty::undo);
             Edges.told("undone", undone, group -> group.past(0, number), Groups.NONE);
             Edges.told("refused", Edges.after(Edges::tenDrawn, group -> group.repair(7)),
                 group -> group.past(0, number), Groups.NONE);
@@ -743,7 +746,7 @@ public final class EdgesOfRepairsTest {
         Checks.sentence("Promise 25", "0 if that is 0.");
         Edges.told("new", Edges::fresh, EdgesOfRepairsTest::silenceOf, 0);
         Edges.told("no repair", lost(7, 0, 1), EdgesOfRepairsTest::silenceOf, 0);
-        Edges.told("an undone repair", Edges.after(lost(7, 0, 1), group -> group.repair(7) + group.undo()),
+        Edges.told("an undone repair", Edges.after(lost(7, 0, 1), group -> group.repair(7), RepairDuty::undo),
             EdgesOfRepairsTest::silenceOf, 0);
         Edges.told("questions alone", Edges.after(lost(7, 0), group -> group.repair(7)),
             EdgesOfRepairsTest::silenceOf, 0);

@@ -468,7 +468,7 @@ public final class RepairsTest {
         Checks.holds("some were silent", silent > 0);
     }
 
-    /** The sum of the times of the repairs of all blocks, made one by one with a wait, on a group that is spent then. */
+    /** The sum of the times of all repairs, made one by one with a wait, on a group that is spent then. */
     private static int sumOfTimes(RepairDuty group, int wait) {
         group.set(0, wait);
         int sum = 0;
