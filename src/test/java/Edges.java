@@ -96,6 +96,12 @@ final class Edges {
             then.subList(1, then.size()).equals(before.subList(0, kept)));
     }
 
+    /** The call is one act, and leaves all as it was. */
+    static void idleAct(String what, Maker maker, Call call, long due) {
+        act(what, maker, call, due);
+        Checks.holds(what + " leaves all as it was", states(after(maker, call)).get(0).equals(states(maker).get(0)));
+    }
+
     static Maker after(Maker maker, Call... calls) {
         return () -> {
             RepairDuty group = maker.make();

@@ -86,7 +86,7 @@ public final class EdgesOfBlocksTest {
             Checks.due("another block", group.lose(9, 100), 1);
         }
         Edges.Maker lost = Edges.after(Edges::pair, group -> group.lose(1, 9));
-        Edges.act("once more is an act, too", lost, group -> group.lose(1, 9), 1);
+        Edges.idleAct("once more is an act, too", lost, group -> group.lose(1, 9), 1);
         Edges.act("the other", lost, group -> group.lose(0, 9), 2);
     }
 
@@ -362,7 +362,8 @@ public final class EdgesOfBlocksTest {
         right(Edges::pair, "199:0", 1);
         wrong(Edges::pair, "200:0", 0);
         wrong(Edges::pair, "201:01", 0);
-        wrong(Edges::pair, "299:0", 0);
+        wrong(Edges::pair, "299:1", 0);
+        wrong(Edges::pair, "3:1;999:1", 4);
         wrong(Edges::pair, "300:0", 0);
         wrong(Edges::pair, "999:0", 0);
         wrong(Edges::pair, "1:0;200:0", 4);
@@ -438,7 +439,7 @@ public final class EdgesOfBlocksTest {
         Checks.sentence("Promise 18", "This is one act.");
         Edges.act("one loss", typed(Edges::pair, "5:0"), group -> group.read(), 1);
         Edges.act("many losses", typed(Edges::tenDrawn, LONGEST), group -> group.read(), 10);
-        Edges.act("none that is new", typed(Edges.after(Edges::pair, group -> group.lose(1, 5)), "5:1;5:1"),
+        Edges.idleAct("none that is new", typed(Edges.after(Edges::pair, group -> group.lose(1, 5)), "5:1;5:1"),
             group -> group.read(), 0);
         Edges.act("on a busy group", typed(Edges::busy, "0;13:4"), group -> group.read(), 2);
     }

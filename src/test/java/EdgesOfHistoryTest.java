@@ -135,18 +135,18 @@ public final class EdgesOfHistoryTest {
         int right = Edges.busy().duty(1);
         int committed = Edges.busy().duty(2);
         int wrong = Edges.busy().duty(3);
-        Edges.act("change weight", Edges::busy, group -> group.change(4, 0, 5), 5);
-        Edges.act("change position", Edges::busy, group -> group.change(4, 1, 40), 40);
-        Edges.act("die", Edges::busy, group -> group.live(dead, false), 0);
-        Edges.act("live", Edges::busy, group -> group.live(right, true), 1);
-        Edges.act("set", Edges::busy, group -> group.set(0, 100), 100);
-        Edges.act("commit", Edges::busy, group -> group.commit(committed, Groups.mix(7)), 1);
-        Edges.act("reveal rightly", Edges::busy, group -> group.reveal(right, 6), 1);
-        Edges.act("reveal wrongly", Edges::busy, group -> group.reveal(wrong, 1), 0);
-        Edges.act("lose", Edges::busy, group -> group.lose(4, 0), 1);
-        Edges.act("read", Edges.after(Edges::busy, group -> group.lose(4, 12), group -> group.type('4')),
+        Edges.idleAct("change weight", Edges::busy, group -> group.change(4, 0, 5), 5);
+        Edges.idleAct("change position", Edges::busy, group -> group.change(4, 1, 40), 40);
+        Edges.idleAct("die", Edges::busy, group -> group.live(dead, false), 0);
+        Edges.idleAct("live", Edges::busy, group -> group.live(right, true), 1);
+        Edges.idleAct("set", Edges::busy, group -> group.set(0, 100), 100);
+        Edges.idleAct("commit", Edges::busy, group -> group.commit(committed, Groups.mix(7)), 1);
+        Edges.idleAct("reveal rightly", Edges::busy, group -> group.reveal(right, 6), 1);
+        Edges.idleAct("reveal wrongly", Edges::busy, group -> group.reveal(wrong, 1), 0);
+        Edges.idleAct("lose", Edges::busy, group -> group.lose(4, 0), 1);
+        Edges.idleAct("read", Edges.after(Edges::busy, group -> group.lose(4, 12), group -> group.type('4')),
             group -> group.read(), 0);
-        Edges.act("repairAll", Edges.after(Edges::busy, group -> group.repairAll()), group -> group.repairAll(), 0);
+        Edges.idleAct("repairAll", Edges.after(Edges::busy, group -> group.repairAll()), group -> group.repairAll(), 0);
         RepairDuty group = waits(4);
         for (int i = 0; i < 4; i++) {
             group.set(0, 4);

@@ -210,9 +210,9 @@ public final class EdgesOfMembersTest {
     private static void livingBefore() {
         Checks.sentence("Promise 4", "Returns 1 if it was living before, otherwise 0");
         Edges.act("dies", Edges::pair, group -> group.live(1, false), 1);
-        Edges.act("lives on", Edges::pair, group -> group.live(1, true), 1);
+        Edges.idleAct("lives on", Edges::pair, group -> group.live(1, true), 1);
         Edges.Maker dead = Edges.after(Edges::pair, group -> group.live(1, false));
-        Edges.act("stays dead", dead, group -> group.live(1, false), 0);
+        Edges.idleAct("stays dead", dead, group -> group.live(1, false), 0);
         Edges.act("lives again", dead, group -> group.live(1, true), 0);
         Edges.Maker alone = Edges.after(dead, group -> group.live(0, false));
         Edges.act("all are dead", alone, group -> group.live(0, true), 0);

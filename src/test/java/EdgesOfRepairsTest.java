@@ -478,10 +478,10 @@ public final class EdgesOfRepairsTest {
 
     private static void noBlocks() {
         Checks.sentence("Promise 21", "This is one act. Returns how many they were.");
-        Edges.act("new", Edges::fresh, group -> group.repairAll(), 0);
-        Edges.act("no round", () -> losing(Edges.ten(), 7, 1), group -> group.repairAll(), 0);
-        Edges.act("no losers", Edges::tenDrawn, group -> group.repairAll(), 0);
-        Edges.act("no repairer", lost(7, ranks(0, 9)), group -> group.repairAll(), 0);
+        Edges.idleAct("new", Edges::fresh, group -> group.repairAll(), 0);
+        Edges.idleAct("no round", () -> losing(Edges.ten(), 7, 1), group -> group.repairAll(), 0);
+        Edges.idleAct("no losers", Edges::tenDrawn, group -> group.repairAll(), 0);
+        Edges.idleAct("no repairer", lost(7, ranks(0, 9)), group -> group.repairAll(), 0);
         Edges.act("one", lost(0, 1), group -> group.repairAll(), 1);
         Edges.act("the last one", lost(199, 1), group -> group.repairAll(), 1);
         Edges.act("two", () -> losing(lost(0, 1).make(), 199, 2), group -> group.repairAll(), 2);
